@@ -57,6 +57,12 @@ final class PlacesTest {
         isAt("5640", 0, 0, x, 2);
         isAt("8460", 1, 1, x, 3);
         isAt("-2820 is rounded down", -1, -1, x, 4);
+        SailLog y = new SailLog();
+        y.log(0, 1, 87, 0, 0);
+        y.log(1, 0, 0, 0, 0);
+        y.setTide(0, 268, 1);
+        // The sines of 87 and 88 are 998 and 999: the boat is set west by the least there is.
+        Checks.same("-1 is rounded down", -1, y.east(1));
     }
 
     private static void faults() {
