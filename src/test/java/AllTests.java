@@ -1,19 +1,42 @@
-/** Runs every test of the project; exits with 1 if one fails. */
+import java.io.IOException;
+import java.nio.file.Files;
+import java.nio.file.Path;
+
+/** Runs every test of the project; exits with 1 if one fails. Takes the document's path. */
 public final class AllTests {
     private AllTests() {
     }
 
-    public static void main(String[] args) {
-        FaceTest.run();
-        LogTest.run();
-        WindTest.run();
-        TableTest.run();
-        TurnsTest.run();
-        PlacesTest.run();
-        ModelTest.run();
+    public static void main(String[] args) throws IOException {
+        if (args.length > 0 && Files.isReadable(Path.of(args[0]))) {
+            Document.read(Path.of(args[0]));
+        } else {
+            System.out.println("the document is not there: quotes from it are not compared");
+        }
+        Checks.group("FaceTest", FaceTest::run);
+        Checks.group("LogTest", LogTest::run);
+        Checks.group("WindTest", WindTest::run);
+        Checks.group("TableTest", TableTest::run);
+        Checks.group("TurnsTest", TurnsTest::run);
+        Checks.group("PlacesTest", PlacesTest::run);
+        Checks.group("ModelTest", ModelTest::run);
+        testsOfSentences();
         System.out.println(Checks.passed() + " passed, " + Checks.failed() + " failed");
         if (Checks.failed() != 0) {
             System.exit(1);
         }
+    }
+
+    private static void testsOfSentences() {
+        TermsTest.run();
+        WindTermsTest.run();
+        TableTermsTest.run();
+        ExceptionsTest.run();
+        LogPromisesTest.run();
+        WindPromisesTest.run();
+        TablePromisesTest.run();
+        TurnPromisesTest.run();
+        PlacePromisesTest.run();
+        Document.nothingIsLeftOut();
     }
 }

@@ -6,8 +6,20 @@ final class Checks {
 
     private static int passed = 0;
     private static int failed = 0;
+    private static String group = "";
 
     private Checks() {
+    }
+
+    /** Runs tests whose failures are told with this name; one that throws ends just them. */
+    static void group(String name, Runnable tests) {
+        group = name + ": ";
+        try {
+            tests.run();
+        } catch (RuntimeException e) {
+            holds("ended by " + e, false);
+        }
+        group = "";
     }
 
     static void same(String what, long due, long answered) {
@@ -58,7 +70,7 @@ final class Checks {
             passed++;
         } else {
             failed++;
-            System.out.println(what + ": " + otherwise);
+            System.out.println(group + what + ": " + otherwise);
         }
     }
 }
