@@ -155,22 +155,12 @@ final class ExceptionsTest {
         return x;
     }
 
-    /** All that can be asked of the last entries, of tides, faults and the latest minute. */
+    /** What is asked of the last entries, of tides, faults and the latest minute. */
     private static List<Integer> ofEntries(SailLog x) {
         List<Integer> answers = new ArrayList<>();
         int entries = x.entries();
         answers.add(entries);
-        for (int i = Math.max(entries - 5, 0); i < entries; i++) {
-            answers.add(x.speed(i));
-            answers.add(x.strength(i));
-            answers.add(x.angle(i));
-            answers.add(x.from(i));
-            answers.add(x.side(i));
-            answers.add(x.turn(i));
-            answers.add(x.cost(i));
-            answers.add(x.east(i));
-            answers.add(x.north(i));
-        }
+        addLastEntries(answers, x);
         answers.add(x.costs(SailLog.TACK));
         answers.add(x.costs(SailLog.GYBE));
         answers.add(x.vaneShown());
@@ -186,7 +176,23 @@ final class ExceptionsTest {
             answers.add(x.setTide(hour, 0, 0));
         }
         answers.add(x.setFaults(1000, 0, 0));
+        // Found anew from what was told.
+        addLastEntries(answers, x);
         return answers;
+    }
+
+    private static void addLastEntries(List<Integer> answers, SailLog x) {
+        for (int i = Math.max(x.entries() - 5, 0); i < x.entries(); i++) {
+            answers.add(x.speed(i));
+            answers.add(x.strength(i));
+            answers.add(x.angle(i));
+            answers.add(x.from(i));
+            answers.add(x.side(i));
+            answers.add(x.turn(i));
+            answers.add(x.cost(i));
+            answers.add(x.east(i));
+            answers.add(x.north(i));
+        }
     }
 
     private static List<Integer> ofTable(SailLog x) {

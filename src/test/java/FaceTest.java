@@ -1,4 +1,5 @@
 import java.lang.reflect.Constructor;
+import java.lang.reflect.Executable;
 import java.lang.reflect.Field;
 import java.lang.reflect.Method;
 import java.lang.reflect.Modifier;
@@ -32,28 +33,36 @@ final class FaceTest {
 
     private static void members() {
         Set<String> due = new TreeSet<>(Arrays.asList(
-                "field NONE", "field NEITHER", "field STARBOARD", "field PORT",
-                "field NO_TURN", "field TACK", "field GYBE", "constructor 0",
-                "log 5 " + IAE + " " + ISE, "setFaults 3 " + IAE,
-                "setTide 3 " + IOOBE + " " + IAE, "entries 0", "sine 1",
-                "speed 1 " + IOOBE, "strength 1 " + IOOBE, "angle 1 " + IOOBE,
-                "from 1 " + IOOBE, "side 1 " + IOOBE,
-                "best 2 " + IOOBE, "bestByLog 2 " + IOOBE, "bestUp 1 " + IOOBE,
-                "bestDown 1 " + IOOBE, "bestCourse 3 " + IOOBE + " " + IAE,
-                "turn 1 " + IOOBE, "cost 1 " + IOOBE, "costs 1 " + IAE,
-                "east 1 " + IOOBE, "north 1 " + IOOBE, "vaneShown 0"));
+                "int NONE", "int NEITHER", "int STARBOARD", "int PORT", "int NO_TURN",
+                "int TACK", "int GYBE", "SailLog()",
+                "int log(int int int int int) " + IAE + " " + ISE,
+                "int setFaults(int int int) " + IAE,
+                "int setTide(int int int) " + IOOBE + " " + IAE, "int entries()",
+                "int sine(int)", "int speed(int) " + IOOBE, "int strength(int) " + IOOBE,
+                "int angle(int) " + IOOBE, "int from(int) " + IOOBE, "int side(int) " + IOOBE,
+                "int best(int int) " + IOOBE, "int bestByLog(int int) " + IOOBE,
+                "int bestUp(int) " + IOOBE, "int bestDown(int) " + IOOBE,
+                "int bestCourse(int int int) " + IOOBE + " " + IAE, "int turn(int) " + IOOBE,
+                "int cost(int) " + IOOBE, "int costs(int) " + IAE, "int east(int) " + IOOBE,
+                "int north(int) " + IOOBE, "int vaneShown()"));
         Set<String> found = new TreeSet<>();
+        int constant = Modifier.PUBLIC | Modifier.STATIC | Modifier.FINAL;
         for (Field field : SailLog.class.getDeclaredFields()) {
             if (!Modifier.isPrivate(field.getModifiers())) {
-                found.add("field " + field.getName());
+                found.add(field.getType().getSimpleName() + " " + field.getName());
+                Checks.holds(field + " is a constant", field.getModifiers() == constant);
             }
         }
         for (Constructor<?> constructor : SailLog.class.getDeclaredConstructors()) {
-            found.add("constructor " + constructor.getParameterCount());
+            found.add("SailLog" + written(constructor));
+            Checks.holds(constructor + " is public",
+                    constructor.getModifiers() == Modifier.PUBLIC);
         }
         for (Method method : SailLog.class.getDeclaredMethods()) {
             if (!Modifier.isPrivate(method.getModifiers())) {
-                found.add(written(method));
+                found.add(method.getReturnType().getSimpleName() + " " + method.getName()
+                        + written(method));
+                Checks.holds(method + " is public", method.getModifiers() == Modifier.PUBLIC);
             }
         }
         Checks.holds("the face is " + found, found.equals(due));
@@ -67,10 +76,13 @@ final class FaceTest {
         }
     }
 
-    private static String written(Method method) {
+    private static String written(Executable call) {
         StringBuilder text = new StringBuilder();
-        text.append(method.getName()).append(' ').append(method.getParameterCount());
-        for (Class<?> thrown : method.getExceptionTypes()) {
+        for (Class<?> type : call.getParameterTypes()) {
+            text.append(text.length() == 0 ? "(" : " ").append(type.getSimpleName());
+        }
+        text.append(text.length() == 0 ? "()" : ")");
+        for (Class<?> thrown : call.getExceptionTypes()) {
             text.append(' ').append(thrown.getSimpleName());
         }
         return text.toString();

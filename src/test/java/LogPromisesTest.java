@@ -82,6 +82,8 @@ final class LogPromisesTest {
         Checks.same("the speed as told", 300, x.speed(0));
         Checks.same("the heading and the angle as told", 100, x.from(0));
         Checks.same("the angle as told", 0, x.angle(0));
+        Checks.same("an angle of 60 as told", 60, Logs.still(60).angle(0));
+        Checks.same("an angle of 61 as told", 61, Logs.still(61).angle(0));
         Checks.same("the factor", 1000, x.setFaults(1000, 0, 0));
         Checks.same("of a new one", 1000, new SailLog().setFaults(500, 0, 0));
     }

@@ -233,12 +233,14 @@ final class LogTest {
         // 2147483647 is 127 modulo 360, and -2147483648 is 232.
         Checks.same("sine of the greatest", x.sine(127), x.sine(Integer.MAX_VALUE));
         Checks.same("sine of the least", x.sine(232), x.sine(Integer.MIN_VALUE));
+        SailLog y = new SailLog();
+        SailLog z = new SailLog();
         for (int angle = 0; angle < 180; angle++) {
             int arch = angle * (180 - angle);
             int due = 4000 * arch / (40500 - arch);
             Checks.same("sine(" + angle + ")", due, x.sine(angle));
-            Checks.same("sine(" + angle + " + 180)", -due, x.sine(angle + 180));
-            Checks.same("sine(" + angle + " - 360)", due, x.sine(angle - 360));
+            Checks.same("sine(" + angle + " + 180)", -due, y.sine(angle + 180));
+            Checks.same("sine(" + angle + " - 360)", due, z.sine(angle - 360));
         }
     }
 }

@@ -2,8 +2,9 @@ import java.util.Random;
 
 /** Runs of calls that a written seed draws: each answer is the plain model's. */
 final class ModelTest {
-    private static final int RUNS = 60;
-    private static final int CALLS = 300;
+    private static final int RUNS = 80;
+    /** A step asks twice at most: an object is good for 512 calls. */
+    private static final int STEPS = 256;
 
     private final SailLog log = new SailLog();
     private final PlainModel model = new PlainModel();
@@ -20,8 +21,8 @@ final class ModelTest {
     static void run() {
         for (int seed = 0; seed < RUNS; seed++) {
             ModelTest test = new ModelTest(seed);
-            for (int call = 0; call < CALLS; call++) {
-                test.step("seed " + seed + ", call " + call);
+            for (int step = 0; step < STEPS; step++) {
+                test.step("seed " + seed + ", step " + step);
             }
         }
     }

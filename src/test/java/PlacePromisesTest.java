@@ -221,6 +221,7 @@ final class PlacePromisesTest {
     private static void meansRoundedDown() {
         // Port 60 and 41, starboard 41: 51 less 41 would make 5.
         Checks.same("50.5 less 41", 4, Logs.still(41, 300, 319).vaneShown());
+        Checks.same("50.5 less twice 41", 4, Logs.still(41, 300, 41, 319).vaneShown());
         // Port 60, starboard 60 and 41: 60 less 50.5 or 51 would make 4.
         Checks.same("60 less 50.5", 5, Logs.still(41, 60, 300).vaneShown());
         // Port 41, starboard 55 and 60: 41 less 57.5 or 58 would make -9.

@@ -122,13 +122,8 @@ final class PlacesTest {
         isAt("the last hour", 10, 0, late, 1);
     }
 
-    /** Boats that lie still: the wind is at the angle where it is felt. */
     private static int shown(int... angles) {
-        SailLog x = new SailLog();
-        for (int i = 0; i < angles.length; i++) {
-            x.log(i, 0, 0, 100, angles[i]);
-        }
-        return x.vaneShown();
+        return Logs.still(angles).vaneShown();
     }
 
     private static void vane() {

@@ -82,8 +82,10 @@ final class TableTest {
         x.setFaults(500, 0, 0);
         // 25 and 20: winds of 65 and 70.
         isIn("slower than before", 0, 1, 25, x);
+        SailLog y = one(50, 90, 0);
+        y.setFaults(1000, 20, 0);
+        isIn("the compass changes no field", 0, 1, 50, y);
         x.setFaults(1000, 20, 0);
-        isIn("the compass changes no field", 0, 1, 50, x);
         x.log(2, 51, 0, 92, 0);
         Checks.same("learned after the faults", 51, x.best(0, 1));
     }

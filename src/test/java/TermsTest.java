@@ -102,6 +102,8 @@ final class TermsTest {
         SailLog x = Logs.one(50, 0, 100, 0);
         Checks.same("heading 358 less bearing 0", 358, x.bestCourse(1, 349, 0));
         Checks.same("heading 1 less bearing 359", 1, x.bestCourse(1, 10, 359));
+        Checks.same("heading 0 less bearing 10 is 350", 10, x.bestCourse(1, 9, 10));
+        Checks.same("heading 0 less bearing 359 is 1", 359, x.bestCourse(1, 0, 359));
     }
 
     private static int trueHeading(int told, int compass) {
@@ -250,8 +252,12 @@ final class TermsTest {
     }
 
     private static void trueHeadingAndAngle() {
+        int[] angles = {0, 60, 61, 90, 299, 300};
+        for (int angle : angles) {
+            Checks.same("no fault of the vane at first", angle, Logs.still(angle).angle(0));
+        }
         SailLog x = Logs.one(0, 100, 100, 20);
-        Checks.same("no fault of the vane at first", 20, x.angle(0));
+        Checks.same("still none", 20, x.angle(0));
         Checks.same("no fault of the compass at first", 120, x.from(0));
         x.setFaults(1000, 20, 0);
         Checks.same("the compass leaves the angle", 20, x.angle(0));

@@ -13,32 +13,23 @@ final class TurnsTest {
         costRanges();
     }
 
-    /** Boats that lie still: the wind is at the angle where it is felt. */
-    private static SailLog still(int... angles) {
-        SailLog x = new SailLog();
-        for (int i = 0; i < angles.length; i++) {
-            x.log(i, 0, 0, 100, angles[i]);
-        }
-        return x;
-    }
-
     private static void kinds() {
-        Checks.same("tack to port", SailLog.TACK, still(60, 300).turn(1));
-        Checks.same("tack to starboard", SailLog.TACK, still(300, 60).turn(1));
-        Checks.same("gybe to port", SailLog.GYBE, still(120, 240).turn(1));
-        Checks.same("gybe to starboard", SailLog.GYBE, still(240, 120).turn(1));
-        Checks.same("88 and 90 together", SailLog.TACK, still(88, 270).turn(1));
-        Checks.same("90 and 88 together", SailLog.TACK, still(90, 272).turn(1));
-        Checks.same("90 and 90 together", SailLog.GYBE, still(90, 270).turn(1));
-        Checks.same("60 and 120 together", SailLog.GYBE, still(60, 240).turn(1));
-        Checks.same("92 and 90 together", SailLog.GYBE, still(92, 270).turn(1));
+        Checks.same("tack to port", SailLog.TACK, Logs.still(60, 300).turn(1));
+        Checks.same("tack to starboard", SailLog.TACK, Logs.still(300, 60).turn(1));
+        Checks.same("gybe to port", SailLog.GYBE, Logs.still(120, 240).turn(1));
+        Checks.same("gybe to starboard", SailLog.GYBE, Logs.still(240, 120).turn(1));
+        Checks.same("88 and 90 together", SailLog.TACK, Logs.still(88, 270).turn(1));
+        Checks.same("90 and 88 together", SailLog.TACK, Logs.still(90, 272).turn(1));
+        Checks.same("90 and 90 together", SailLog.GYBE, Logs.still(90, 270).turn(1));
+        Checks.same("60 and 120 together", SailLog.GYBE, Logs.still(60, 240).turn(1));
+        Checks.same("92 and 90 together", SailLog.GYBE, Logs.still(92, 270).turn(1));
     }
 
     private static void noTurns() {
-        Checks.same("the entry 0", SailLog.NO_TURN, still(60, 300).turn(0));
-        Checks.same("starboard as before", SailLog.NO_TURN, still(60, 120).turn(1));
-        Checks.same("port as before", SailLog.NO_TURN, still(240, 300).turn(1));
-        SailLog luffed = still(60, 0, 300);
+        Checks.same("the entry 0", SailLog.NO_TURN, Logs.still(60, 300).turn(0));
+        Checks.same("starboard as before", SailLog.NO_TURN, Logs.still(60, 120).turn(1));
+        Checks.same("port as before", SailLog.NO_TURN, Logs.still(240, 300).turn(1));
+        SailLog luffed = Logs.still(60, 0, 300);
         Checks.same("to neither side", SailLog.NO_TURN, luffed.turn(1));
         Checks.same("from neither side", SailLog.NO_TURN, luffed.turn(2));
         Checks.same("cost of the entry 0", 0, luffed.cost(0));
@@ -101,7 +92,7 @@ final class TurnsTest {
         x.setFaults(500, 0, 0);
         // 50, 30, 40, 55: 20 for 2 minutes, 10 for 3.
         Checks.same("cost with half the speeds", 70, x.cost(1));
-        SailLog y = still(2, 300);
+        SailLog y = Logs.still(2, 300);
         y.setFaults(1000, 0, -20);
         Checks.same("the vane set back: both on port", SailLog.NO_TURN, y.turn(1));
     }
