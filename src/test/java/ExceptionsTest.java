@@ -109,8 +109,7 @@ final class ExceptionsTest {
         Refused[] refused = {
             x -> x.log(1440, 299, 7, 555, 111), x -> x.log(800, 301, 7, 555, 111),
             x -> x.log(800, 299, 360, 555, 111), x -> x.log(800, 299, 7, 601, 111),
-            x -> x.log(800, 299, 7, 555, 360), x -> x.log(59, 299, 7, 555, 111),
-            x -> x.log(0, 299, 7, 555, 111), x -> x.log(-1, 299, 7, 555, 111),
+            x -> x.log(800, 299, 7, 555, 360), x -> x.log(-1, 299, 7, 555, 111),
             x -> x.setFaults(1501, 1, 2), x -> x.setFaults(499, 1, 2),
             x -> x.setFaults(800, 21, 2), x -> x.setFaults(800, -21, 2),
             x -> x.setFaults(800, 1, 21), x -> x.setFaults(800, 1, -21),
@@ -125,9 +124,10 @@ final class ExceptionsTest {
         };
         for (int i = 0; i < refused.length; i++) {
             leavesAll("a few entries, refused call " + i, 4, refused[i]);
-            leavesAll("an empty log, refused call " + i, 0,
-                    i == 5 || i == 6 ? x -> x.log(0, -1, 0, 0, 0) : refused[i]);
+            leavesAll("an empty log, refused call " + i, 0, refused[i]);
         }
+        leavesAll("the latest minute", 4, x -> x.log(59, 299, 7, 555, 111));
+        leavesAll("an early minute", 4, x -> x.log(0, 299, 7, 555, 111));
         leavesAll("a full log", 60, x -> x.log(1439, 299, 7, 555, 111));
         leavesAll("a full log, and an early minute", 60, x -> x.log(0, 299, 7, 555, 111));
     }
