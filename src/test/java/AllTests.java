@@ -2,18 +2,22 @@ import java.io.IOException;
 import java.nio.file.Files;
 import java.nio.file.Path;
 
-/** Runs every test of the project; exits with 1 if one fails. Takes the document's path. */
+/**
+ * Runs every test of the project; exits with 1 if one fails. Takes the paths of README.md and of
+ * the document.
+ */
 public final class AllTests {
     private AllTests() {
     }
 
     public static void main(String[] args) throws IOException {
-        if (args.length > 0 && Files.isReadable(Path.of(args[0]))) {
-            Document.read(Path.of(args[0]));
+        ReadmeTest.read(Path.of(args[0]));
+        if (Files.isReadable(Path.of(args[1]))) {
+            Document.read(Path.of(args[1]));
         } else {
             System.out.println("the document is not there: quotes from it are not compared");
         }
-        Checks.group("FaceTest", FaceTest::run);
+        Checks.group("README.md", ReadmeTest::run);
         Checks.group("LogTest", LogTest::run);
         Checks.group("WindTest", WindTest::run);
         Checks.group("TableTest", TableTest::run);
@@ -28,6 +32,8 @@ public final class AllTests {
     }
 
     private static void testsOfSentences() {
+        WholeTest.run();
+        FaceTest.run();
         TermsTest.run();
         WindTermsTest.run();
         TableTermsTest.run();

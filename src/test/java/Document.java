@@ -9,7 +9,7 @@ import java.util.Set;
 
 /**
  * The document's own words. A test is begun by the sentence that it is for; the words that no
- * test is for are told, so that none of "Terms" and the promises is left out.
+ * test is for are told, so that none is left out.
  */
 final class Document {
     private static final Map<String, String> SECTIONS = new LinkedHashMap<>();
@@ -36,12 +36,7 @@ final class Document {
 
     private static void keep(String heading, String text) {
         SECTIONS.put(heading, text);
-        boolean[] quoted = new boolean[text.length()];
-        if (heading.startsWith("Promise ")) {
-            // The method's head: FaceTest is for it.
-            Arrays.fill(quoted, 0, text.indexOf("`: ") + 3, true);
-        }
-        QUOTED.put(heading, quoted);
+        QUOTED.put(heading, new boolean[text.length()]);
     }
 
     /** Runs the test that would fail if this sentence alone were broken. */
@@ -71,16 +66,12 @@ final class Document {
         }
     }
 
-    /** Fails for each section of "Terms" and the promises that has words without a test. */
+    /** Fails for each section that has words without a test. */
     static void nothingIsLeftOut() {
-        boolean inTerms = false;
         for (Map.Entry<String, String> section : SECTIONS.entrySet()) {
             String heading = section.getKey();
-            inTerms = heading.equals("Terms") || inTerms && !heading.startsWith("Promise ");
-            if (inTerms || heading.startsWith("Promise ")) {
-                String left = wordsLeft(section.getValue(), QUOTED.get(heading));
-                Checks.holds(heading + ": no test is for \"" + left + "\"", left.isEmpty());
-            }
+            String left = wordsLeft(section.getValue(), QUOTED.get(heading));
+            Checks.holds(heading + ": no test is for \"" + left + "\"", left.isEmpty());
         }
     }
 

@@ -61,6 +61,8 @@ final class ExceptionsTest {
             Checks.noEntry("column " + number, () -> x.bestUp(number));
             Checks.noEntry("hour " + number, () -> x.setTide(number, 0, 0));
         }
+        // A mark is told by its bearing alone, and promise 16 says what a bearing throws.
+        Checks.outOfRange("bearing of a mark", () -> x.bestCourse(0, 0, 360));
     }
 
     private static void argumentOutOfRange() {

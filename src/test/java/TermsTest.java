@@ -35,8 +35,6 @@ final class TermsTest {
         Document.holds(log, "the true heading is the told one and the fault of the compass, the "
                 + "true angle the told one and the fault of the vane, both 0 at first.",
                 TermsTest::trueHeadingAndAngle);
-        Document.holds("What it is", "An object is used for at most 512 calls after it has been "
-                + "made;", TermsTest::holdsFor512Calls);
     }
 
     private static void divisionsAreRoundedDown() {
@@ -272,17 +270,5 @@ final class TermsTest {
         Checks.same("the wind goes back with the vane", 100, x.from(0));
         x.setFaults(1000, 20, -20);
         Checks.same("one against the other", 120, x.from(0));
-    }
-
-    private static void holdsFor512Calls() {
-        SailLog x = new SailLog();
-        for (int call = 0; call < 60; call++) {
-            x.log(call, 60, 90, 100, 0);
-        }
-        for (int call = 60; call < 510; call++) {
-            Checks.same("call " + call, 10 * (call % 60), x.east(call % 60));
-        }
-        Checks.same("the call before the last", 1000, x.setFaults(500, 0, 0));
-        Checks.same("the last call", 295, x.east(59));
     }
 }
